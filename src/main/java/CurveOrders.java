@@ -40,6 +40,8 @@ public final class CurveOrders {
      * of the double side beside its own, so at most 20 + 60 + 64 + 16 + 4 + 1 squares are ever divided.
      */
     private static final int MAX_LEAVES = 496;
+    /** Far above the steps that a search by halves needs, whose bounds are below MAX_CELLS + 1. */
+    private static final int MAX_HALVINGS = 32;
     /** Far above the steps that balancing needs. */
     private static final int MAX_BALANCE_STEPS = 1000000;
     /** The answer of private methods that find nothing; no number of anything is negative. */
@@ -692,7 +694,7 @@ public final class CurveOrders {
         private int findLongestJoined(int joined) {
             int low = 0;
             int high = MAX_CELLS;
-            while (low < high) {
+            for (int step = 0; step < MAX_HALVINGS && low < high; step++) {
                 int middle = (low + high) / 2;
                 if (countGapsUpTo(middle) >= joined) {
                     high = middle;
@@ -863,7 +865,7 @@ public final class CurveOrders {
         int leafOfIndex(int index) {
             int low = 0;
             int high = count - 1;
-            while (low < high) {
+            for (int step = 0; step < MAX_HALVINGS && low < high; step++) {
                 int middle = (low + high + 1) / 2;
                 if (starts[middle] <= index) {
                     low = middle;
@@ -957,9 +959,11 @@ public final class CurveOrders {
             return steps;
         }
 
+        /** A walk has fewer steps than there are cells along a side. */
         int leafAfter(int leaf, int side, int steps) {
             int here = leaf;
-            for (int i = 0; i < steps && here != ABSENT; i++) {
+            int most = Math.min(steps, STRIDE);
+            for (int i = 0; i < most && here != ABSENT; i++) {
                 here = findLowest(here, side);
             }
             return here;

@@ -490,13 +490,14 @@ public final class PromiseTest {
         same("19: 1 1 of 6", x.clusters(1, 1), 4096);
         x.setLevels(4);
         for (int width = 1; width <= 16; width += 3) {
-            same("19: sum " + width, x.clusters(width, 5), countOneByOne(x, width, 5));
+            same("19: sum " + width, x.clusters(width, 5), countOneByOne(width, 5));
         }
     }
 
-    private static int countOneByOne(CurveOrders x, int width, int height) {
+    private static int countOneByOne(int width, int height) {
         int sum = 0;
         for (int left = 0; left + width <= 16; left++) {
+            CurveOrders x = withLevels(4);
             for (int below = 0; below + height <= 16; below++) {
                 x.setRange(left, below, left + width - 1, below + height - 1);
                 sum += x.intervals();

@@ -97,10 +97,7 @@ public final class WideGridTest {
         Check.same("balance", real.balance(), plain.balance());
         Check.holds("few enough leaves", plain.leaves() <= MOST_LEAVES);
         Check.same("leaves after balancing", real.leaves(), plain.leaves());
-        for (int leaf = 0; leaf < plain.leaves(); leaf++) {
-            for (int what = 0; what < 4; what++) {
-                Check.same("leaf " + leaf + " " + what, real.leaf(leaf, what), plain.leaf(leaf, what));
-            }
-        }
+        // the checksum asks for every leaf in one call, which keeps to the 512 that an object is made for
+        Check.same("checksum", real.checksum(), plain.checksum());
     }
 }
