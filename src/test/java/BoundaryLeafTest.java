@@ -453,6 +453,21 @@ public final class BoundaryLeafTest extends BoundaryCases {
         due("side at (0, 8)", sideAt(x, 0, 8), 4);
         due("side at (4, 8)", sideAt(x, 4, 8), 2);
         due("balance() again", x.balance(), 0);
+        // the leaf beside the small ones is divided first, then the one behind it, whose number is lower
+        lowerLeafFollows(states(1), 12, 0, 0, 0);
+        lowerLeafFollows(states(1), 0, 12, 0, 0);
+        lowerLeafFollows("32100000;", 3, 0, 8, 0);
+        lowerLeafFollows("32100000;", 0, 3, 0, 8);
+    }
+
+    private static void lowerLeafFollows(String curve, int column, int row, int lowerColumn, int lowerRow) {
+        CurveOrders x = pairAt(4, column, row);
+        type(x, curve);
+        x.read();
+        due("side at first", sideAt(x, lowerColumn, lowerRow), 8);
+        due("balance() with small ones at (" + column + ", " + row + ")", x.balance(), 2);
+        due("side at last", sideAt(x, lowerColumn, lowerRow), 4);
+        due("balance() again", x.balance(), 0);
     }
 
     private static void balancedLeavesStay() {
