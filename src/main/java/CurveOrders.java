@@ -36,8 +36,9 @@ public final class CurveOrders {
      */
     private static final int MAX_INTERVALS = 505;
     /**
-     * At most 20 squares of side 2 have two points. A divided square makes balancing divide at most two squares
-     * of the double side beside its own, so at most 20 + 60 + 64 + 16 + 4 + 1 squares are ever divided.
+     * A square of side 2 is divided only if it has two points, so at most 20 of them are; let there be d. A square
+     * of side 4 is divided if one of these lies in it (d) or beside it (2 * d, as each has two outer sides), or if
+     * it has two other points (20 - d): at most 60. So at most 20 + 60 + 64 + 16 + 4 + 1 squares are ever divided.
      */
     private static final int MAX_LEAVES = 496;
     /** Far above the steps that a search by halves needs, whose bounds are below MAX_CELLS + 1. */
